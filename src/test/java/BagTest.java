@@ -47,6 +47,10 @@ public final class BagTest {
     }
 
     private static void pairCounts() {
+        LaundryService two = new LaundryService();
+        two.bring(0, true, 1, 1);
+        two.bring(0, true, 1, 2);
+        pairs(two, 0, 1);
         LaundryService s = new LaundryService();
         for (int client = 0; client < 4; client++) {
             pairs(s, client, 0);

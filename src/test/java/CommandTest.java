@@ -98,6 +98,25 @@ public final class CommandTest {
         }
     }
 
+    private static void earlierTextsAreForgotten() {
+        LaundryService s = new LaundryService();
+        String[] texts = {"r", "run", "run ", "sock 0 1 ", "sock 0 1 1;"};
+        for (String text : texts) {
+            s.bring(0, false, 1, 1);
+            Check.same("40 a longer text", Check.commands(s, "sock 0 1 001"), 1);
+            Check.feed(s, text);
+            Check.badArgument("40 '" + text + "' after a longer one", () -> s.runCommands());
+            Check.same("41 '" + text + "' after a longer one", s.errorPosition(), text.length());
+        }
+        Check.feed(s, "run 1");
+        Check.unsupported("40 empty machine", () -> s.runCommands());
+        Check.feed(s, "r");
+        Check.badArgument("40 'r' after 'run 1'", () -> s.runCommands());
+        Check.same("41 'r' after 'run 1'", s.errorPosition(), 1);
+        Check.badArgument("40 nothing after 'r'", () -> s.runCommands());
+        Check.same("41 nothing after 'r'", s.errorPosition(), 0);
+    }
+
     private static void failing(LaundryService s, String text, int due) {
         long before = s.garmentCount() > 0 ? s.packed(0) : -1;
         int count = s.garmentCount();
@@ -175,6 +194,7 @@ public final class CommandTest {
         mostCommands();
         tooShort();
         wrongCharacters();
+        earlierTextsAreForgotten();
         failingCommands();
         whatIsKept();
         Check.end();

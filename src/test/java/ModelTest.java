@@ -467,7 +467,7 @@ public final class ModelTest {
         Check.same(call, gotAnswer, dueAnswer);
     }
 
-    private static void change(LaundryService s, Model m, String call, Answer got, Answer due) {
+    private static void change(Model m, String call, Answer got, Answer due) {
         World before = m.world.copy();
         both(call, got, () -> {
             Object answered = due.get();
@@ -485,22 +485,22 @@ public final class ModelTest {
                 boolean sock = random(3) > 0;
                 int colour = number(random(2) == 0 ? 3 : 8);
                 int stains = stainSet();
-                change(s, m, "bring", () -> s.bring(client, sock, colour, stains),
+                change(m, "bring", () -> s.bring(client, sock, colour, stains),
                         () -> m.world.bring(client, sock, colour, stains));
                 break;
             case 2: case 3: case 4: case 5:
-                change(s, m, "load", () -> s.load(garment, machine), () -> m.world.load(garment, machine));
+                change(m, "load", () -> s.load(garment, machine), () -> m.world.load(garment, machine));
                 break;
             case 6:
-                change(s, m, "takeOut", () -> s.takeOut(garment), () -> m.world.takeOut(garment));
+                change(m, "takeOut", () -> s.takeOut(garment), () -> m.world.takeOut(garment));
                 break;
             case 7: case 8:
                 int halves = halves();
-                change(s, m, "setTemperature", () -> s.setTemperature(machine, halves),
+                change(m, "setTemperature", () -> s.setTemperature(machine, halves),
                         () -> m.world.setTemperature(machine, halves));
                 break;
             default:
-                change(s, m, "run", () -> s.run(machine), () -> m.world.run(machine) % 100);
+                change(m, "run", () -> s.run(machine), () -> m.world.run(machine) % 100);
                 break;
         }
     }

@@ -166,6 +166,57 @@ public final class UndoTest {
         Check.same("46 back to the restored state", s.garmentCount(), 0);
     }
 
+    /** What an undone garment leaves behind must not be counted anywhere. */
+    private static void undoneGarmentsAreGone() {
+        LaundryService s = new LaundryService();
+        s.bring(0, false, 0, 255);
+        s.setTemperature(0, 120);
+        s.save();
+        s.bring(0, true, 7, 255);
+        s.load(1, 0);
+        s.load(0, 0);
+        s.run(0);
+        s.load(1, 0);
+        s.restore();
+        Check.same("19 no load", s.inMachine(0), 0);
+        Check.same("24 no load", s.commonStains(0), 255);
+        Check.same("25 no load", s.coloursIn(0), 0);
+        Check.same("29 no load", s.price(0, 0), 0f);
+        s.load(0, 0);
+        Check.same("19 its own load", s.inMachine(0), 1);
+        Check.same("25 its own colour", s.coloursIn(0), 1);
+        Check.same("29 its own price", s.price(0, 0), 8.75f);
+        Check.same("26 its own damage", s.damage(0), 3);
+        Check.same("27 its own damage", s.damageByMasks(0), 3);
+        s.run(0);
+        Check.same("6 its own colour runs", s.stains(0), 1);
+        Check.same("18 its own bag", s.inBag(0), 1);
+        Check.same("43 its own bag", s.writeBag(0), 3);
+        Check.same("36 its own stains", s.meanStains(), 1.0);
+        Check.same("2 the next index", s.bring(0, true, 7, 255), 1);
+        Check.same("14 no runs of the one before", s.washes(1), 0);
+        Check.same("13 no place of the one before", s.place(1), 'b');
+    }
+
+    private static void undoneSocksAreGone() {
+        LaundryService s = new LaundryService();
+        s.bring(0, true, 7, 0);
+        s.bring(0, true, 7, 0);
+        Check.same("16 a pair", s.pairCount(0), 1);
+        s.undo();
+        Check.same("16 none", s.pairCount(0), 0);
+        Check.same("17 none", s.pairCountByParity(0), 0);
+        Check.noElement("15 none", () -> s.partner(0));
+        s.save();
+        s.bring(0, true, 7, 255);
+        s.load(1, 0);
+        s.restore();
+        s.load(0, 0);
+        Check.same("26 alone", s.damage(0), 10);
+        Check.same("27 alone", s.damageByMasks(0), 10);
+        Check.same("6 alone", s.run(0), 1);
+    }
+
     public static void main(String[] args) {
         undoEachKind();
         onlyTheLatestEight();
@@ -174,6 +225,8 @@ public final class UndoTest {
         failedCommandsKeepAllEight();
         saveAndRestore();
         restoreForgetsTheCalls();
+        undoneGarmentsAreGone();
+        undoneSocksAreGone();
         Check.end();
     }
 }

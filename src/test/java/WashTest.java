@@ -85,6 +85,51 @@ public final class WashTest {
         Check.same("6 lost", s.run(0), 1);
     }
 
+    private static void firstGarmentHasTheGreatestColour() {
+        LaundryService s = new LaundryService();
+        s.bring(0, false, 5, 0);
+        s.bring(0, false, 0, 0);
+        s.load(0, 0);
+        s.load(1, 0);
+        s.setTemperature(0, 180);
+        damage(s, 0, 3);
+        s.run(0);
+        Check.same("6 its stain", s.stains(1), 32);
+    }
+
+    private static void firstGarmentSavesAnother() {
+        LaundryService s = new LaundryService();
+        s.bring(0, true, 5, 128);
+        s.bring(1, true, 5, 0);
+        s.bring(1, false, 5, 0);
+        for (int i = 0; i < 3; i++) {
+            s.load(i, 0);
+        }
+        damage(s, 0, 1);
+        Check.same("6 none lost", s.run(0), 0);
+    }
+
+    /** No call looks behind the sixteenth garment. */
+    private static void fullService() {
+        LaundryService s = new LaundryService();
+        for (int i = 0; i < 16; i++) {
+            s.bring(i % 4, i % 3 > 0, i % 8, i);
+        }
+        for (int i = 6; i < 16; i++) {
+            s.load(i, i % 2);
+        }
+        s.setTemperature(0, 120);
+        damage(s, 0, 23);
+        damage(s, 1, 30);
+        Check.same("28 full", s.bestTemperature(1), 60);
+        Check.same("34 full", s.dirtiest(0), 15);
+        Check.same("34 full, last", s.dirtiest(15), 0);
+        Check.same("16 full", s.pairCount(1), s.pairCountByParity(1));
+        Check.same("6 full", s.run(0), 2);
+        Check.same("6 full too", s.run(1), 3);
+        Check.same("20 full", s.lost(), 1 << 10 | 1 << 14 | 1 << 7 | 1 << 11 | 1 << 13);
+    }
+
     private static LaundryService socks(int number, boolean shirtToo) {
         LaundryService s = new LaundryService();
         for (int i = 0; i < number; i++) {
@@ -177,6 +222,9 @@ public final class WashTest {
         stainsLeave();
         coloursRun();
         colourZeroAlone();
+        firstGarmentHasTheGreatestColour();
+        firstGarmentSavesAnother();
+        fullService();
         socksAreLost();
         socksAreKept();
         sameColourElsewhere();
