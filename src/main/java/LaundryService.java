@@ -13,8 +13,9 @@ public final class LaundryService {
     private static final int STAIN_KINDS = 8;
     private static final int ALL_STAINS = 255;
 
-    // A garment's place as promise 32 packs it; machine m is the place m + 1.
+    // A garment's place as promise 32 packs it; the machine m is the place FIRST_MACHINE + m.
     private static final int BAG = 0;
+    private static final int FIRST_MACHINE = 1;
     private static final int LOST = 3;
 
     // Temperatures are held as twice the degrees, so that every comparison is one of ints.
@@ -172,7 +173,7 @@ public final class LaundryService {
 
     public int inMachine(int machine) throws IndexOutOfBoundsException {
         requireMachine(machine);
-        return state.garmentsAt(placeOfMachine(machine));
+        return state.garmentsAt(FIRST_MACHINE + machine);
     }
 
     public float temperature(int machine) throws IndexOutOfBoundsException {
@@ -422,15 +423,11 @@ public final class LaundryService {
 
     // ---- what the methods of the face share
 
-    private static int placeOfMachine(int machine) {
-        return machine + 1;
-    }
-
     private static char placeSign(int place) {
         if (place == BAG) {
             return 'b';
         }
-        return place == LOST ? 'x' : (char) ('0' + place - 1);
+        return place == LOST ? 'x' : (char) ('0' + place - FIRST_MACHINE);
     }
 
     /**
@@ -518,71 +515,45 @@ public final class LaundryService {
     /** Answers the index of the first command that fails, or the number of commands if none does. */
     private int carryOutUntilFault() {
         for (int index = 0; index < input.commandCount; index++) {
-            if (carryOut(input.commands[index]) != Fault.NONE) {
+            Command command = input.commands[index];
+            if (faultOf(command) != Fault.NONE) {
                 return index;
             }
+            carryOut(command);
         }
         return input.commandCount;
     }
 
-    private Fault carryOut(Command command) {
-        if (command.keyword == Keyword.SOCK) {
-            return bringByCommand(command, true);
-        }
-        if (command.keyword == Keyword.SHIRT) {
-            return bringByCommand(command, false);
+    private Fault faultOf(Command command) {
+        if (command.keyword == Keyword.SOCK || command.keyword == Keyword.SHIRT) {
+            return state.faultOfBringing(command.first, command.second, command.third);
         }
         if (command.keyword == Keyword.LOAD) {
-            return loadByCommand(command);
+            return state.faultOfLoading(command.first, command.second);
         }
         if (command.keyword == Keyword.OUT) {
-            return takeOutByCommand(command);
+            return state.faultOfTakingOut(command.first);
         }
         if (command.keyword == Keyword.HEAT) {
-            return heatByCommand(command);
+            return state.faultOfHeating(command.first, 2 * command.second);
         }
-        return runByCommand(command);
+        return state.faultOfRunning(command.first);
     }
 
-    private Fault bringByCommand(Command command, boolean sock) {
-        Fault fault = state.faultOfBringing(command.first, command.second, command.third);
-        if (fault == Fault.NONE) {
+    /** Only for a command without a fault. */
+    private void carryOut(Command command) {
+        if (command.keyword == Keyword.SOCK || command.keyword == Keyword.SHIRT) {
+            boolean sock = command.keyword == Keyword.SOCK;
             state.addGarment(command.first, sock, command.second, command.third);
-        }
-        return fault;
-    }
-
-    private Fault loadByCommand(Command command) {
-        Fault fault = state.faultOfLoading(command.first, command.second);
-        if (fault == Fault.NONE) {
+        } else if (command.keyword == Keyword.LOAD) {
             state.putIntoMachine(command.first, command.second);
-        }
-        return fault;
-    }
-
-    private Fault takeOutByCommand(Command command) {
-        Fault fault = state.faultOfTakingOut(command.first);
-        if (fault == Fault.NONE) {
+        } else if (command.keyword == Keyword.OUT) {
             state.putBackIntoBag(command.first);
-        }
-        return fault;
-    }
-
-    private Fault heatByCommand(Command command) {
-        int halves = 2 * command.second;
-        Fault fault = state.faultOfHeating(command.first, halves);
-        if (fault == Fault.NONE) {
-            state.halves[command.first] = halves;
-        }
-        return fault;
-    }
-
-    private Fault runByCommand(Command command) {
-        Fault fault = state.faultOfRunning(command.first);
-        if (fault == Fault.NONE) {
+        } else if (command.keyword == Keyword.HEAT) {
+            state.halves[command.first] = 2 * command.second;
+        } else {
             Washing.wash(state, command.first);
         }
-        return fault;
     }
 
     /** Why a change is refused. */
@@ -689,12 +660,12 @@ public final class LaundryService {
         }
 
         void putIntoMachine(int garment, int machine) {
-            places[garment] = placeOfMachine(machine);
+            places[garment] = FIRST_MACHINE + machine;
         }
 
         /** Answers the machine that the garment was in. */
         int putBackIntoBag(int garment) {
-            int machine = places[garment] - 1;
+            int machine = places[garment] - FIRST_MACHINE;
             places[garment] = BAG;
             return machine;
         }
@@ -712,7 +683,7 @@ public final class LaundryService {
         }
 
         boolean isIn(int garment, int machine) {
-            return places[garment] == placeOfMachine(machine);
+            return places[garment] == FIRST_MACHINE + machine;
         }
 
         int garmentsInBag(int client) {
@@ -736,7 +707,7 @@ public final class LaundryService {
         }
 
         int countIn(int machine) {
-            return Integer.bitCount(garmentsAt(placeOfMachine(machine)));
+            return Integer.bitCount(garmentsAt(FIRST_MACHINE + machine));
         }
 
         int stainsOfAllIn(int machine) {

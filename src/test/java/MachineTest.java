@@ -19,8 +19,8 @@ public final class MachineTest {
     }
 
     private static void bitsAndWashableStains() {
-        LaundryService s = new LaundryService();
         for (int halves = 40; halves <= 180; halves++) {
+            LaundryService s = new LaundryService();
             s.setTemperature(1, halves);
             float due = halves / 2f;
             Check.same("21 at " + halves, s.temperature(1), due);
@@ -31,6 +31,7 @@ public final class MachineTest {
             }
             Check.same("23 at " + halves, s.washableStains(1), stains);
         }
+        LaundryService s = new LaundryService();
         Check.same("22 untouched machine", s.temperatureBits(0), 1109393408);
         Check.same("23 untouched machine", s.washableStains(0), 15);
         Check.noIndex("22 machine 2", () -> s.temperatureBits(2));

@@ -9,8 +9,13 @@ import java.util.regex.Pattern;
  * a regular expression for the texts, and every temperature tried for the best one.
  */
 public final class ModelTest {
-    private static final int RUNS = 3000;
+    private static final int RUNS = 8000;
+
+    // What an object answers after as many calls is free.
     private static final int CALLS = 512;
+
+    // A text that overfills the input is the dearest step.
+    private static final int DEAREST_STEP = 63;
 
     private static final class Garment {
         int client;
@@ -383,6 +388,9 @@ public final class ModelTest {
 
     private static long seed = 20261119;
 
+    // The calls that the object of this run has had.
+    private static int calls = 0;
+
     private static int random(int bound) {
         seed = seed * 6364136223846793005L + 1442695040888963407L;
         return (int) ((seed >>> 33) % bound);
@@ -461,7 +469,9 @@ public final class ModelTest {
         }
     }
 
+    /** Each answer that is got is that of one call. */
     private static void both(String call, Answer got, Answer due) {
+        calls++;
         Object dueAnswer = answer(due);
         Object gotAnswer = answer(got);
         Check.same(call, gotAnswer, dueAnswer);
@@ -535,7 +545,7 @@ public final class ModelTest {
         }
     }
 
-    private static int texts(LaundryService s, Model m) {
+    private static void texts(LaundryService s, Model m) {
         String text = text(m.world.garments.size());
         int fed = random(20) == 0 ? 62 : text.length();
         for (int i = 0; i < fed; i++) {
@@ -549,7 +559,6 @@ public final class ModelTest {
             });
         }
         both("runCommands of '" + m.input + "'", () -> s.runCommands(), () -> m.runCommands());
-        return fed + 1;
     }
 
     private static int kept(int number) {
@@ -590,9 +599,10 @@ public final class ModelTest {
             m.output = w.bagText(client);
             return m.output.length();
         });
-        both("output", () -> Check.output(s, m.output.length()), () -> m.output);
-        both("outputChar", () -> s.outputChar(m.output.length()), () -> {
-            throw new IndexOutOfBoundsException();
+        int index = random(4) == 0 ? m.output.length() : number(Math.max(1, m.output.length()));
+        both("outputChar", () -> s.outputChar(index), () -> {
+            below(index, m.output.length());
+            return m.output.charAt(index);
         });
     }
 
@@ -622,16 +632,26 @@ public final class ModelTest {
             }
             return colours;
         });
-        for (int client = -1; client <= 4; client++) {
-            int payer = client;
+        for (int price = 0; price < 4; price++) {
+            int payer = number(4);
             both("price", () -> s.price(machine, payer), () -> w.price(machine, payer));
         }
+        // The model tries every temperature, which is slow.
         if (random(20) == 0) {
             both("bestTemperature", () -> s.bestTemperature(machine), () -> w.bestTemperature(machine));
         }
     }
 
-    private static void askAll(LaundryService s, Model m) {
+    private static void ask(LaundryService s, Model m) {
+        switch (random(4)) {
+            case 0: askGarment(s, m.world, number(Math.max(1, m.world.garments.size()))); break;
+            case 1: askClient(s, m, number(4)); break;
+            case 2: askMachine(s, m.world, number(2)); break;
+            default: askService(s, m); break;
+        }
+    }
+
+    private static void askService(LaundryService s, Model m) {
         World w = m.world;
         both("garmentCount", () -> s.garmentCount(), () -> w.garments.size());
         both("lost", () -> s.lost(), () -> w.mask(w.at('x')));
@@ -642,14 +662,18 @@ public final class ModelTest {
         both("undoCount", () -> s.undoCount(), () -> m.past.size());
         both("errorPosition", () -> s.errorPosition(), () -> kept(m.errorPosition));
         both("failedCommand", () -> s.failedCommand(), () -> kept(m.failedCommand));
-        for (int garment = -1; garment <= w.garments.size(); garment++) {
-            askGarment(s, w, garment);
-        }
-        for (int client = -1; client <= 4; client++) {
-            askClient(s, m, client);
-        }
-        for (int machine = -1; machine <= 2; machine++) {
-            askMachine(s, w, machine);
+    }
+
+    private static void oneStep(LaundryService s, Model m) {
+        int kind = random(40);
+        if (kind == 0) {
+            texts(s, m);
+        } else if (kind < 5) {
+            pastOrSaved(s, m);
+        } else if (kind < 10) {
+            ask(s, m);
+        } else {
+            oneChange(s, m);
         }
     }
 
@@ -657,26 +681,13 @@ public final class ModelTest {
         for (int run = 0; run < RUNS; run++) {
             LaundryService s = new LaundryService();
             Model m = new Model();
-            // Questions change nothing, so that only the other calls of a run are counted, most
-            // runs being asked only at their end.
-            int calls = 0;
-            while (calls < CALLS) {
-                int kind = random(40);
-                if (kind == 0) {
-                    calls += texts(s, m);
-                } else {
-                    calls++;
-                    if (kind < 5) {
-                        pastOrSaved(s, m);
-                    } else {
-                        oneChange(s, m);
-                    }
-                }
-                if (run % 20 == 0) {
-                    askAll(s, m);
-                }
+            calls = 0;
+            while (calls <= CALLS - DEAREST_STEP) {
+                oneStep(s, m);
             }
-            askAll(s, m);
+            while (calls < CALLS) {
+                oneChange(s, m);
+            }
         }
         Check.end();
     }

@@ -42,7 +42,7 @@ public final class PriceTest {
         }
         s.bring(0, false, 1, 0);
         float[] sums = new float[4];
-        for (int i = 0; i < 60; i++) {
+        for (int i = 0; i < 30; i++) {
             int payers = i % 4 + 1;
             int halves = 40 + 37 * i % 141;
             s.setTemperature(0, halves);

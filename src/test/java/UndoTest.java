@@ -1,47 +1,32 @@
 /** Promises 45 to 48: undo, save and restore. */
 public final class UndoTest {
-    /** All that undo and restore bring back, as a text. */
-    private static String look(LaundryService s) {
-        StringBuilder text = new StringBuilder();
-        for (int garment = 0; garment < s.garmentCount(); garment++) {
-            text.append(s.packed(garment)).append(' ');
-        }
-        for (int machine = 0; machine < 2; machine++) {
-            text.append(s.temperature(machine)).append(' ');
-        }
-        for (int client = 0; client < 4; client++) {
-            text.append(s.paid(client)).append(' ');
-        }
-        return text.append(s.runCount()).toString();
-    }
-
     private static void undoEachKind() {
         LaundryService s = new LaundryService();
         Check.badState("46 nothing", () -> s.undo());
         Check.same("45 nothing", s.undoCount(), 0);
         String[] looks = new String[8];
         int step = 0;
-        looks[step++] = look(s);
+        looks[step++] = Look.state(s);
         s.bring(1, true, 2, 3);
-        looks[step++] = look(s);
+        looks[step++] = Look.state(s);
         s.load(0, 1);
-        looks[step++] = look(s);
+        looks[step++] = Look.state(s);
         s.takeOut(0);
-        looks[step++] = look(s);
+        looks[step++] = Look.state(s);
         s.load(0, 0);
-        looks[step++] = look(s);
+        looks[step++] = Look.state(s);
         s.setTemperature(0, 121);
-        looks[step++] = look(s);
+        looks[step++] = Look.state(s);
         s.run(0);
-        looks[step++] = look(s);
+        looks[step++] = Look.state(s);
         Check.commands(s, "shirt 0 0 1;load 1 1;heat 1 50;run 1");
-        looks[step] = look(s);
+        looks[step] = Look.state(s);
         s.setTemperature(1, 100);
         Check.same("45 eight", s.undoCount(), 8);
         for (int left = 7; left >= 0; left--) {
             Check.same("46 left", s.undo(), left);
             Check.same("45 left", s.undoCount(), left);
-            Check.same("46 state " + left, look(s), looks[left]);
+            Check.same("46 state " + left, Look.state(s), looks[left]);
         }
         Check.badState("46 nothing left", () -> s.undo());
     }
@@ -128,7 +113,7 @@ public final class UndoTest {
         s.setTemperature(1, 130);
         s.run(1);
         s.load(0, 0);
-        String look = look(s);
+        String look = Look.state(s);
         Check.same("47 garments", s.save(), 2);
         Check.same("45 save leaves the calls to undo", s.undoCount(), 6);
         s.undo();
@@ -141,14 +126,14 @@ public final class UndoTest {
         s.run(0);
         s.setTemperature(0, 50);
         Check.same("48 garments", s.restore(), 2);
-        Check.same("48 state", look(s), look);
+        Check.same("48 state", Look.state(s), look);
         Check.same("48 nothing to undo", s.undoCount(), 0);
         Check.badState("48 nothing to undo", () -> s.undo());
         s.run(0);
         s.bring(0, true, 0, 0);
         Check.same("45 counts anew", s.undoCount(), 2);
         Check.same("48 the saved state is kept", s.restore(), 2);
-        Check.same("48 state again", look(s), look);
+        Check.same("48 state again", Look.state(s), look);
         s.bring(0, true, 0, 0);
         Check.same("47 replaced", s.save(), 3);
         s.undo();
